@@ -199,6 +199,8 @@ public final class DeedsTest {
         dueJudge(x, new long[] {999}, 0, 1);
         dueJudge(x, new long[] {1L << 32}, 0, 1);
         dueJudge(x, new long[] {(1L << 32) + 2000}, 0, 1);
+        dueJudge(x, new long[] {(1L << 32) + 1002}, 0, 1);
+        dueJudge(x, new long[] {(1L << 32) - 1}, 0, 1);
         dueJudge(x, new long[] {Long.MIN_VALUE}, 0, 1);
     }
 

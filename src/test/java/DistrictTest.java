@@ -55,6 +55,7 @@ public final class DistrictTest {
         Check.due("the hour of a text without one", x.count(8), 0);
         Check.due("no things then", x.count(3), 0);
         Check.badArgument("district(1) of an empty tape", () -> x.district(1));
+        Check.due("district(0)", x.district(0), -12);
         StringBuilder longest = new StringBuilder("fall 1 1;");
         while (longest.length() < 900) {
             longest.append(longest.length() + 7 <= 900 ? "hour 1;" : " ");

@@ -15,7 +15,29 @@ public final class FallsTest {
         heightIn();
         hurt();
         spares();
+        eightHours();
         Check.end();
+    }
+
+    /** As many hours with falls as there can be. */
+    private static void eightHours() {
+        LateFalls x = Check.of("fall 1 9;thing 1 up 0 0 for 1;thing 2 up 0 1 for 2;thing 3 up 0 2 for 3;"
+                + "thing 4 up 0 3 for 4;thing 5 up 0 4 for 5;thing 6 up 0 5 for 6;thing 7 up 0 6 for 7;"
+                + "thing 8 up 0 8 for 8;walker 0;");
+        for (int t = 0; t < 8; t++) {
+            Check.due("falls(" + t + ") of eight", x.falls(t), t + 1);
+            Check.due("lands(" + t + ") of eight", x.lands(t), t);
+            Check.due("fallIn(" + (t + 1) + ") of eight", x.fallIn(t + 1), 1 << t);
+            Check.due("heightIn(0, " + t + ") of eight", x.heightIn(0, t), t);
+        }
+        Check.due("hurts(0) by eight", x.hurts(0), 36);
+        Check.due("hurtIn(0) by eight", x.hurtIn(0), 1);
+        Check.due("spares(0, 0) of eight", x.spares(0, 0), 36);
+        Check.due("later(0, 8) by eight", x.later(0, 8), 36);
+        Check.due("busiest() of eight", x.busiest(), 1);
+        Check.due("shelter() from eight", x.shelter(), 0);
+        Check.due("safeIn(0, 1) from eight", x.safeIn(0, 1), 0);
+        Check.due("eight fall in eight hours", x.hours(8), 8);
     }
 
     /** Promise 18. */

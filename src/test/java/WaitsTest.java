@@ -71,6 +71,10 @@ public final class WaitsTest {
         Check.badState("waitSafe(1, 0, 0)", () -> x.waitSafe(1, 0, 0));
         LateFalls y = Check.of("fall 2 2;thing 5 held 1;thing 9 up 1 1 for 1;walker 1;");
         Check.due("who is hurt elsewhere in that hour doesn't count", y.waitSafe(0, 0, 0), 0);
+        LateFalls longest = Check.of("fall 2 2;thing 1 held 0;thing 9 up 1 1 for 60;walker 0;");
+        Check.due("by the longest wait alone", longest.waitSafe(0, 1, 1), 60);
+        LateFalls beyond = Check.of("fall 2 2;thing 1 held 0;thing 9 up 1 1 for 61;walker 0;");
+        Check.due("a wait too long", beyond.waitSafe(0, 1, 1), LateFalls.NONE);
         LateFalls z = Check.of("fall 2 2;thing 5 held 0;walker 0 0 0 1;walker 0 1;");
         // It falls in hour 2w: walkers are both elsewhere in no hour but 3 modulo 4.
         Check.due("never safe", z.waitSafe(0, 0, 0), LateFalls.NONE);
@@ -89,6 +93,11 @@ public final class WaitsTest {
         LateFalls y = Check.of("fall 2 2;thing 5 held 1;walker 0 0 0 1;");
         // It falls in hour 2w + 1.
         Check.due("waitHurt(0, 1, 0, 0)", y.waitHurt(0, 1, 0, 0), 1);
+        // One hangs in its place up to hour 60.
+        LateFalls z = Check.of("fall 2 2;thing 1 held 0;thing 9 up 1 1 for 60;walker 1;");
+        Check.due("by the longest wait alone", z.waitHurt(0, 1, 1, 0), 60);
+        LateFalls beyond = Check.of("fall 2 2;thing 1 held 0;thing 9 up 1 1 for 61;walker 1;");
+        Check.due("a wait too long", beyond.waitHurt(0, 1, 1, 0), LateFalls.NONE);
     }
 
     /** Promise 32. */
