@@ -222,6 +222,16 @@ public final class DeedsTest {
         Check.due("twelve hours", x.count(8), 12);
         tell(x, 3, 2);
         Check.due("perform of an empty tray", x.perform(3), 0);
+        LateFalls y = Check.of("fall 1 1;thing 5 held 1;");
+        tell(y, 0, 0, -1);
+        Check.due("perform no more than is told", y.perform(0), 1);
+        Check.due("it is held still", y.thing(0, 4), 2);
+        y.tray(1, 3, 30);
+        for (int i = 0; i < 30; i++) {
+            y.write(1, i, i % 2 == 0 ? 0 : 1000);
+        }
+        Check.due("perform a full tray", y.perform(1), 30);
+        Check.due("judge a full tray", y.judge(1, 0), LateFalls.NONE);
     }
 
     /** Promise 17: against the document's own words, a second time. */

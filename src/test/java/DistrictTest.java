@@ -292,6 +292,13 @@ public final class DistrictTest {
         frees("not 1=1 or 1=1", true);
         frees("not [1=1 or 1=1]", false);
         frees("not not 1=1", true);
+        frees("not 1=1", false);
+        frees("not 1=2", true);
+        frees("not 1<2", false);
+        frees("not 2<1", true);
+        frees("not 2>1", false);
+        frees("not 1>2", true);
+        frees("not [1=1 and 1=1]", false);
         frees("not 1=2 and 1=1", true);
         frees("2*(la-lb)=wa+1", true);
         LateFalls x = Check.of("fall 1 1;thing 1 held 0;hangs:1;hangs:2;");

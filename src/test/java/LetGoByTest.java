@@ -41,6 +41,9 @@ public final class LetGoByTest {
         Check.due("the 52nd", x.letGoAt(0, 0, 1, 51), 151);
         Check.due("the 60th", x.letGoAt(0, 0, 1, 59), 959);
         Check.due("not so many", x.letGoAt(0, 0, 1, 60), LateFalls.NONE);
+        LateFalls y = Check.of("fall 1 1;hour 70;");
+        Check.due("60 hours ago", y.letGoAt(0, 0, 1, 60), 6060);
+        Check.due("61 hours ago", y.letGoAt(0, 0, 1, 61), LateFalls.NONE);
         Check.due("by far not so many", x.letGoAt(0, 0, 1, Integer.MAX_VALUE), LateFalls.NONE);
         Check.noSuch("letGoAt(2, 0, 0, -1)", () -> x.letGoAt(2, 0, 0, -1));
         Check.noSuch("letGoAt(0, 3, 1, 0)", () -> x.letGoAt(0, 3, 1, 0));

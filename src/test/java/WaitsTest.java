@@ -171,5 +171,11 @@ public final class WaitsTest {
         Check.due("the soonest, by long waits", down.both(0, 1, 0, 1, 0, 0), 120);
         Check.due("its first wait", down.both(0, 1, 0, 1, 0, 1), 50);
         Check.due("its second wait", down.both(0, 1, 0, 1, 0, 2), 60);
+        Check.due("the other way round, its first wait", down.both(1, 0, 1, 0, 0, 1), 60);
+        LateFalls least = Check.of("fall 2 4;thing 1 held 2;thing 2 held 9;thing 3 up 1 3 for 2;");
+        // Thing 1 is set free in two hours, whether it is let go now or in an hour.
+        Check.due("in two hours", least.both(0, 1, 0, 1, 1, 0), 2);
+        Check.due("the second's least wait", least.both(0, 1, 0, 1, 1, 2), 0);
+        Check.due("the first's least wait", least.both(1, 0, 1, 0, 1, 1), 0);
     }
 }
