@@ -891,19 +891,19 @@ public final class LateFalls {
             return many;
         }
 
+        /** The bounds are those of what the law tells: without one it hangs as long as it was held. */
         int hangTime(int held, int weight, int c, int l, int hour, int lying) {
-            int told = held;
-            if (hangs != null) {
-                int[] given = hangs.given;
-                given[0] = held;
-                given[1] = weight;
-                given[2] = c;
-                given[3] = l;
-                given[4] = Math.floorMod(hour, 24);
-                given[5] = lying;
-                told = hangs.value();
+            if (hangs == null) {
+                return held;
             }
-            return Math.max(0, Math.min(LONGEST_HANG, told));
+            int[] given = hangs.given;
+            given[0] = held;
+            given[1] = weight;
+            given[2] = c;
+            given[3] = l;
+            given[4] = Math.floorMod(hour, 24);
+            given[5] = lying;
+            return Math.max(0, Math.min(LONGEST_HANG, hangs.value()));
         }
     }
 

@@ -103,11 +103,11 @@ final class PlainModel {
         }
 
         int hangTime(int held, int weight, int c, int l, int when, int lying) {
-            long n = held;
-            if (hangs != null) {
-                n = hangs.of(Map.of("held", held, "weight", weight, "column", c, "level", l, "hour", when % 24,
-                        "lying", lying));
+            if (hangs == null) {
+                return held;
             }
+            long n = hangs.of(Map.of("held", held, "weight", weight, "column", c, "level", l, "hour", when % 24,
+                    "lying", lying));
             return (int) Math.max(0, Math.min(999, n));
         }
 
@@ -805,7 +805,7 @@ final class PlainModel {
     TreeMap<Integer, Integer> future(World from) {
         TreeMap<Integer, Integer> all = new TreeMap<>();
         World w = from.copy();
-        for (int n = 1; n < 2000 && w.anyHangs(); n++) {
+        for (int n = 1; w.anyHangs(); n++) {
             int bits = w.passHour();
             if (bits != 0) {
                 all.put(n, bits);

@@ -35,6 +35,12 @@ public final class RandomRunsTest {
         if (random.nextBoolean()) {
             layTrays();
         }
+        // Held for more than 999 hours; seldom, as the plain model goes through each of them.
+        if (random.nextInt(25) == 0) {
+            for (int i = 8 + random.nextInt(6); i > 0; i--) {
+                same("hours(99)", () -> x.hours(99), () -> m.hours(99));
+            }
+        }
         while (calls < 300 && !wrong) {
             calls++;
             int pick = random.nextInt(100);
