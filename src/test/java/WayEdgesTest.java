@@ -155,14 +155,18 @@ public final class WayEdgesTest {
         Check.badArgument("no way, what 71", () -> none.safeWay(1, 0, 71));
     }
 
+    /** Where nothing falls: of all rows of steps, hour by hour. */
     private static long count(int n, int from, int to, int columns) {
-        if (from < 0 || from >= columns) {
-            return 0;
+        long[] ways = new long[columns + 2];
+        ways[from + 1] = 1;
+        for (int hour = 0; hour < n; hour++) {
+            long[] next = new long[columns + 2];
+            for (int c = 1; c <= columns; c++) {
+                next[c] = ways[c - 1] + ways[c] + ways[c + 1];
+            }
+            ways = next;
         }
-        if (n == 0) {
-            return from == to ? 1 : 0;
-        }
-        return count(n - 1, from - 1, to, columns) + count(n - 1, from, to, columns) + count(n - 1, from + 1, to, columns);
+        return ways[to + 1];
     }
 
     /** "of just n HOURS (0 to 20)". */
