@@ -27,6 +27,7 @@ public final class ToComeEdgesTest {
         nowhere();
         worstTheFirst();
         bothAsSoonAsCanBe();
+        eightHoursOfFalls();
         nothingIsDone();
         Check.end();
     }
@@ -427,6 +428,30 @@ public final class ToComeEdgesTest {
         Check.badArgument("one column", () -> x.both(0, 1, 1, 1, 3, 0));
         Check.badArgument("what 3", () -> x.both(0, 1, 0, 1, 3, 3));
         Check.badArgument("what -1", () -> x.both(0, 1, 0, 1, 3, -1));
+    }
+
+    /** "8 at most": as many falls in hours of their own as there can be. */
+    private static void eightHoursOfFalls() {
+        StringBuilder up = new StringBuilder("fall 3 9;frees:1=2;");
+        for (int t = 0; t < 7; t++) {
+            up.append("thing ").append(t + 1).append(" up 0 ").append(t).append(" for ").append(t + 1).append(";");
+        }
+        LateFalls x = Check.of(up + "thing 9 up 1 8 for 8;walker 2;walker 1;walker 0;");
+        Check.due("hurtIn(0), by none of eight", x.hurtIn(0), NONE);
+        Check.due("hurts(0), by none of eight", x.hurts(0), 0);
+        Check.due("hurtIn(1), by the last of eight", x.hurtIn(1), 8);
+        Check.due("hurts(2), by seven", x.hurts(2), 28);
+        Check.due("heightIn(1, 8)", x.heightIn(1, 8), 1);
+        LateFalls held = Check.of(up + "thing 9 held 8;walker 1;");
+        Check.due("fallsBy, behind seven others", held.fallsBy(7, 1, 8, 0), 8);
+        Check.due("fallsBy, seven fall ahead of that", held.fallsBy(7, 1, 8, 7), 22);
+        Check.due("waitFor, behind seven others", held.waitFor(7, 1, 8, 8), 0);
+        Check.due("worst, behind seven others", held.worst(7, 0), 10);
+        Check.due("waitHurt, behind seven others", held.waitHurt(7, 1, 8, 0), 0);
+        Check.due("above them", held.fallsBy(7, 0, 8, 0), 8);
+        Check.due("letGo", held.letGo(7, 1, 8), 8);
+        Check.due("lands", held.lands(7), 0);
+        Check.due("eight fall", held.hours(8), 8);
     }
 
     /** "nothing else being done but what is told": asking does nothing. */
